@@ -321,9 +321,9 @@ public final class VoteAuctions {
             return NO_ROOM;
         }
         int number = auctionCount;
-        boolean sealed = kind == SEALED_OWN_PRICE || kind == SEALED_NEXT_PRICE;
+        boolean opensLater = kind == SEALED_OWN_PRICE || kind == SEALED_NEXT_PRICE;
         int shut = height + heights;
-        int end = sealed ? shut + UNSEALING_HEIGHTS : shut;
+        int end = opensLater ? shut + UNSEALING_HEIGHTS : shut;
         auctions[number] = new Auction(kind, units, least, step, shut, end);
         auctionCount++;
         return number;

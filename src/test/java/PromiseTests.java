@@ -564,6 +564,8 @@ public final class PromiseTests {
         due("a seventh", x.auction(0, 1, 1, 0, 1), -4);
         due("a seventh out of bounds", x.auction(0, 2, 1, 0, 1), -2);
         due("price of kind 3", x.price(5), 60000);
+        due("price of a seventh", x.price(6), -1);
+        due("price of an eighth", x.price(7), -1);
     }
 
     private static void bidOpen() {
@@ -612,6 +614,15 @@ public final class PromiseTests {
         x.tick(3);
         due("the later one won", x.won(0, 1), 1);
         dueHolds(x, 0, 100, 0);
+    }
+
+    private static void firstBidNeedsNoStep() {
+        promise = 21;
+        VoteAuctions x = withAccounts(0, 100, 0, 100);
+        x.auction(0, 1, 10, 50, 3);
+        due("least is enough at first", x.bid(0, 1, 1, 10), 1);
+        due("then the step counts", x.bid(0, 0, 1, 59), -3);
+        due("step above the best", x.bid(0, 0, 1, 60), 1);
     }
 
     private static void bidMany() {
@@ -730,6 +741,17 @@ public final class PromiseTests {
         due("at end", x.unseal(0, 2, 100, 3), -3);
     }
 
+    private static void unsealAtEnd() {
+        promise = 23;
+        VoteAuctions x = withAccounts(0, 100);
+        x.auction(1, 1, 10, 0, 1);
+        x.seal(0, 0, x.mark(0, 20, 1));
+        x.tick(6);
+        due("opened at end", x.unseal(0, 0, 20, 1), -3);
+        dueHolds(x, 0, 90, 0);
+        due("least is paid", x.pot(), 10);
+    }
+
     private static void unsealAllFunds() {
         promise = 23;
         VoteAuctions x = withAccounts(0, 100);
@@ -786,7 +808,7 @@ public final class PromiseTests {
 
     private static void take() {
         promise = 24;
-        VoteAuctions x = withAccounts(0, 29, 0, 100);
+        VoteAuctions x = withAccounts(0, 25, 0, 100);
         x.auction(3, 1, 10, 5, 4);
         x.auction(0, 1, 10, 5, 4);
         x.auction(3, 1, 10, 5, 1);
@@ -797,7 +819,7 @@ public final class PromiseTests {
         x.tick(1);
         due("at end", x.take(2, 1), -3);
         due("funds are enough", x.take(0, 0), 25);
-        dueHolds(x, 0, 4, 0);
+        dueHolds(x, 0, 0, 0);
         due("pot()", x.pot(), 25);
         due("it is over", x.take(0, 1), -3);
         due("won", x.won(0, 0), 1);
@@ -870,11 +892,13 @@ public final class PromiseTests {
         auction();
         bidOpen();
         bidWithoutStep();
+        firstBidNeedsNoStep();
         bidMany();
         bidManyWithUnitsLeft();
         bidOfTwentyMillions();
         seal();
         unseal();
+        unsealAtEnd();
         unsealAllFunds();
         unsealNextPrice();
         unsealSecondOfThree();
