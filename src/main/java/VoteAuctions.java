@@ -345,7 +345,7 @@ public final class VoteAuctions {
         if (a.kind == OPEN) {
             dropBid(a, a.leader);
             a.leader = account;
-            a.finalPrice = price;
+            a.knownPrice = price;
         }
         dropBid(a, account);
         a.tell(account);
@@ -400,7 +400,7 @@ public final class VoteAuctions {
         if (a == null || isNoAccount(account)) {
             return NO_SUCH;
         }
-        if (a.kind != FALLING || a.finalPrice != 0 || height >= a.end) {
+        if (a.kind != FALLING || a.knownPrice != 0 || height >= a.end) {
             return WRONG_STATE;
         }
         int cost = fallingPrice(a);
@@ -410,7 +410,7 @@ public final class VoteAuctions {
         setAside(account, cost);
         payAside(account, cost);
         a.won[account] = 1;
-        a.finalPrice = cost;
+        a.knownPrice = cost;
         return cost;
     }
 
@@ -419,8 +419,8 @@ public final class VoteAuctions {
         if (a == null) {
             return NO_SUCH;
         }
-        if (a.finalPrice != 0) {
-            return a.finalPrice;
+        if (a.knownPrice != 0) {
+            return a.knownPrice;
         }
         return a.kind == FALLING && height < a.end ? fallingPrice(a) : WRONG_STATE;
     }
@@ -661,7 +661,7 @@ public final class VoteAuctions {
     // ---- bids and their end
 
     private static boolean isBelowStep(Auction a, int price) {
-        return a.kind == OPEN && a.leader != NOBODY && price < a.finalPrice + a.step;
+        return a.kind == OPEN && a.leader != NOBODY && price < a.knownPrice + a.step;
     }
 
     private int fallingPrice(Auction a) {
@@ -694,10 +694,10 @@ public final class VoteAuctions {
             payUnopened(a);
         }
         shareUnits(a);
-        if (a.kind == SEALED_NEXT_PRICE && a.finalPrice != 0) {
+        if (a.kind == SEALED_NEXT_PRICE && a.knownPrice != 0) {
             // The winner is passed over now, so the next one is the best of the others.
             int next = a.bestWithout();
-            a.finalPrice = next == NOBODY ? a.least : a.prices[next];
+            a.knownPrice = next == NOBODY ? a.least : a.prices[next];
         }
         settleBids(a);
     }
@@ -719,7 +719,7 @@ public final class VoteAuctions {
             }
             int got = Math.min(left, a.wants[best]);
             a.won[best] = got;
-            a.finalPrice = a.prices[best];
+            a.knownPrice = a.prices[best];
             left -= got;
         }
     }
@@ -727,7 +727,7 @@ public final class VoteAuctions {
     private void settleBids(Auction a) {
         for (int account = 0; account < MOST_ACCOUNTS; account++) {
             long cost = a.costOf(account);
-            long paid = (long) a.won[account] * a.finalPrice;
+            long paid = (long) a.won[account] * a.knownPrice;
             payAside(account, paid);
             giveBack(account, cost - paid);
         }
@@ -788,8 +788,9 @@ public final class VoteAuctions {
         private int tellings;
         // Of kind 0 alone: whose bid is the best so far.
         private int leader;
+        // Of kind 0 the best so far, of others what was paid at last for a unit.
         // No price is below 1, so that 0 says that there is none.
-        private int finalPrice;
+        private int knownPrice;
 
         private Auction(int kind, int units, int least, int step, int shut, int end) {
             this.kind = kind;
