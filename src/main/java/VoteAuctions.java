@@ -608,12 +608,10 @@ public final class VoteAuctions {
     }
 
     private int leastCounted(Question q, int in) {
-        int least = 0;
-        int sum = Integer.MAX_VALUE;
+        int least = NOBODY;
         for (int choice = 0; choice < q.choices; choice++) {
-            if (hasChoice(in, choice) && counts[choice] <= sum) {
+            if (hasChoice(in, choice) && (least == NOBODY || counts[choice] <= counts[least])) {
                 least = choice;
-                sum = counts[choice];
             }
         }
         return least;

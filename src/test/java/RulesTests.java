@@ -24,6 +24,7 @@ public final class RulesTests {
         "int price(int)", "int won(int,int)");
     private static final List<String> FORBIDDEN = List.of("throw", "throws", "try", "catch", "finally", "assert",
         "synchronized", "import", "package", "protected", "native", "volatile", "double", "float", "->", "::", "@");
+    private static final List<String> LIBRARY = List.of("Math.max", "Math.min", "System.arraycopy");
     private static final int MOST_LINES = 60;
 
     private static int wrong = 0;
@@ -88,6 +89,10 @@ public final class RulesTests {
             boolean isWord = Character.isLetter(word.charAt(0));
             Matcher m = Pattern.compile(isWord ? "\\b" + word + "\\b" : Pattern.quote(word)).matcher(code);
             must(!m.find(), "no " + word);
+        }
+        Matcher used = Pattern.compile("\\b[A-Z][a-z]+[.]\\w+").matcher(code);
+        while (used.find()) {
+            must(LIBRARY.contains(used.group()), "not in the library's list: " + used.group());
         }
         must(!code.contains("while (true)") && !code.contains("for (;;)"), "no loop without an end");
         must(!code.contains("\""), "no texts");
