@@ -171,8 +171,22 @@ public final class AccountBoundaryTests extends Boundaries {
             due("mark(0, 0, -1), whose upper 29 bits stay", x.mark(0, 0, -1) >>> 35, (1L << 29) - 1);
             due("mark(0, 0, -1), whose others turn", x.mark(0, 0, -1) & ((1L << 35) - 1), 0);
         });
-        says("t is x times 0x9E3779B97F4A7C15, plus y", "x below 0", () ->
-            due("mark(-1, 0, 0)", new VoteAuctions().mark(-1, 0, 0), exactMark(-1, 0, 0)));
+        says("t is x times 0x9E3779B97F4A7C15, plus y", "x and y below 0, the greatest", () -> {
+            VoteAuctions x = new VoteAuctions();
+            due("mark(-1, 0, 0)", x.mark(-1, 0, 0), exactMark(-1, 0, 0));
+            due("mark(1, -1, 0)", x.mark(1, -1, 0), exactMark(1, -1, 0));
+            due("mark(MAX, MAX, 0)", x.mark(Integer.MAX_VALUE, Integer.MAX_VALUE, 0),
+                exactMark(Integer.MAX_VALUE, Integer.MAX_VALUE, 0));
+        });
+        says("t becomes t xor (t >>> 31), times 0xBF58476D1CE4E5B9, plus z; it is t xor (t >>> 29)",
+            "the first number of which each part is not 0; z below 0, the greatest", () -> {
+                VoteAuctions x = new VoteAuctions();
+                due("mark(0, MIN, 0)", x.mark(0, Integer.MIN_VALUE, 0), exactMark(0, Integer.MIN_VALUE, 0));
+                due("mark(0, 0, 2^29)", x.mark(0, 0, 1 << 29), (1 << 29) + 1);
+                due("mark(0, 0, 2^29 - 1)", x.mark(0, 0, (1 << 29) - 1), (1 << 29) - 1);
+                due("mark(7, 7, -1)", x.mark(7, 7, -1), exactMark(7, 7, -1));
+                due("mark(7, 7, MAX)", x.mark(7, 7, Integer.MAX_VALUE), exactMark(7, 7, Integer.MAX_VALUE));
+            });
     }
 
     private static long exactMark(int x, int y, int z) {
@@ -427,6 +441,13 @@ public final class AccountBoundaryTests extends Boundaries {
             due("tick(50)", x.tick(50), 50);
             due("tick(0)", x.tick(0), 50);
             due("tick(1)", x.tick(1), 51);
+        });
+        says("what it is", "after it grew, not before, and after one that is refused", () -> {
+            VoteAuctions x = new VoteAuctions();
+            due("tick(3)", x.tick(3), 3);
+            due("tick(-1)", x.tick(-1), -2);
+            due("tick(51)", x.tick(51), -2);
+            due("tick(4)", x.tick(4), 7);
         });
         says("HEIGHT grows by n", "by 0: nothing comes to its end again", () -> {
             VoteAuctions x = withAccounts(7, 90);

@@ -421,7 +421,7 @@ public final class AuctionBoundaryTests extends Boundaries {
             dueMany(many(7, 10, new int[][] {{0, 1, 13}, {1, 2, 12}, {2, 3, 11}}), 11, 1, 2, 3);
             dueMany(many(3, 10, new int[][] {{0, 1, 13}, {1, 2, 12}, {2, 3, 11}}), 12, 1, 2, 0);
         });
-        says("each gets what it wants, as long as UNITS are left", "all eight accounts, and the eighth the last", () -> {
+        says("each gets what it wants, as long as UNITS are left", "all eight, the eighth as the last", () -> {
             VoteAuctions x = new VoteAuctions();
             x.auction(4, 20, 1, 0, 1);
             x.auction(4, 7, 1, 0, 1);
@@ -778,7 +778,7 @@ public final class AuctionBoundaryTests extends Boundaries {
                 due("unseal in " + no + " of it", x.unseal(no, no, 10, 1), -1);
             }
         });
-        says("-2 the price is not LEAST .. 1000000", "one beside each end, with its mark, and before each state", () -> {
+        says("-2 the price is not LEAST .. 1000000", "beside each end, with its mark, before each state", () -> {
             for (int bad : new int[] {9, 1000001, 0, -1, Integer.MIN_VALUE, Integer.MAX_VALUE}) {
                 VoteAuctions x = eachKind(1000000, 10, 0);
                 x.seal(1, 0, x.mark(0, bad, 1));

@@ -171,6 +171,13 @@ public final class QuestionBoundaryTests extends Boundaries {
                 dueNoVotes(2, c);
             }
         });
+        says("the lowest first, are 1 more than the first, second, .. CHOICE", "the first and the last CHOICE", () -> {
+            VoteAuctions x = ranked(4, new int[] {5}, 1 + 8 * 4);
+            due("count of 0, the first rank", x.count(0, 0), 5);
+            due("vote", x.vote(0, 0, 4 + 8), 1);
+            due("count of 3, the first rank", x.count(0, 3), 5);
+            due("count of 0, the second rank", x.count(0, 0), 0);
+        });
         says("unlike ones, one at least, and 0 behind them", "each of them by itself", () -> {
             for (int v : new int[] {1 + 8, 2 + 8 * 2, 1 + 8 * 2 + 64, 0, 8, 64, 1 + 64 * 2, 5, 6, 7, 1 + 8 * 5}) {
                 dueVote(2, 4, 5, v, false);
@@ -398,7 +405,7 @@ public final class QuestionBoundaryTests extends Boundaries {
             due("count of 2", x.count(0, 2), 0);
             due("count of 3", x.count(0, 3), 0);
         });
-        says("the first CHOICE of its VOTE's RANKS that is still in", "the second and third rank, and none left", () -> {
+        says("the first CHOICE of its VOTE's RANKS that is still in", "the second, the third, none left", () -> {
             VoteAuctions x = ranked(4, new int[] {10, 9, 3, 2}, 1, 2, 3 + 8 * 4 + 64 * 2, 4 + 8 * 3);
             // 10 9 3 2: 3 falls; 10 9 5 -: 2 falls, and of its 5 the 3 have 3 out and then 1, the 2 have none
             due("first fall", x.fallen(0, 0), 3);
@@ -407,7 +414,7 @@ public final class QuestionBoundaryTests extends Boundaries {
             due("count of 1", x.count(0, 1), 12);
             due("third fall", x.fallen(0, 2), -1);
         });
-        says("the first CHOICE of its VOTE's RANKS that is still in", "the last rank of as many as there can be", () -> {
+        says("the first CHOICE of its VOTE's RANKS that is still in", "the last of all ranks", () -> {
             VoteAuctions two = ranked(2, new int[] {4, 4}, 1, 2 + 8);
             due("count by the second of two ranks", two.count(0, 0), 8);
             VoteAuctions three = ranked(3, new int[] {4, 4, 4}, 1, 2 + 8 * 3 + 64, 3 + 8 * 2 + 64);
@@ -763,6 +770,22 @@ public final class QuestionBoundaryTests extends Boundaries {
             due("run for all", x.run(0), 1);
             due("pot()", x.pot(), 0);
             dueHolds(x, 0, 100001, 0);
+        });
+        says("out of the POT", "from no account, to one that has no funds, and nothing when it is told", () -> {
+            VoteAuctions x = withAccounts(5, 40, 0, 0);
+            x.question(0, 2, 1, 0, 0);
+            x.vote(0, 0, 0);
+            x.auction(3, 1, 40, 0, 1);
+            x.take(0, 0);
+            due("call", x.call(0, 1, 40, 0), 1);
+            due("pot() when it is told", x.pot(), 40);
+            dueHolds(x, 1, 0, 0);
+            x.tick(1);
+            due("pot() at END", x.pot(), 40);
+            due("run", x.run(0), 1);
+            due("pot()", x.pot(), 0);
+            dueHolds(x, 0, 0, 0);
+            dueHolds(x, 1, 40, 0);
         });
         says("so many heights behind END at the earliest (0 .. 50)", "the last taken, the first refused", () -> {
             for (int lock : new int[] {0, 1, 50}) {
